@@ -415,6 +415,8 @@ public final class PrimaryParts {
     /** Monomials as single numbers whose natural order is ORDER, so that rows of them sort by comparing. */
     private static final class Monomial {
         static final int ONE = 63 << 18 | 63 << 12 | 63 << 6 | 63;
+        /** Behind every monomial in ORDER. */
+        static final int BEYOND = 0x7fffffff;
 
         private Monomial() {
         }
@@ -895,7 +897,7 @@ public final class PrimaryParts {
 
         int proofOf(int p) {
             carve(~(1 << p));
-            int first = Integer.MAX_VALUE;
+            int first = Monomial.BEYOND;
             for (int a = 0; a <= view.topA(); a++) {
                 for (int b = 0; b <= view.topB(); b++) {
                     for (int c = 0; c <= view.topC(); c++) {
@@ -911,7 +913,7 @@ public final class PrimaryParts {
 
         int witnessOf(int p) {
             int prime = prime(p);
-            int first = Integer.MAX_VALUE;
+            int first = Monomial.BEYOND;
             for (int a = 0; a <= view.topA(); a++) {
                 for (int b = 0; b <= view.topB(); b++) {
                     for (int c = 0; c <= view.topC(); c++) {
@@ -949,6 +951,8 @@ public final class PrimaryParts {
 
         private final Stairs view;
         private final int[] tally;
+        private final int[] totals;
+        private int total;
         private int foundSet;
         private int foundMonomial;
         private Ideal studied;
@@ -956,6 +960,7 @@ public final class PrimaryParts {
         Pairs(Stairs view) {
             this.view = view;
             tally = new int[SETS * DEGREES];
+            totals = new int[SETS];
             foundMonomial = Monomial.ONE;
         }
 
@@ -966,6 +971,8 @@ public final class PrimaryParts {
                 return;
             }
             Arrays.fill(tally, 0);
+            Arrays.fill(totals, 0);
+            total = 0;
             for (int a = 0; a <= view.topA(); a++) {
                 for (int b = 0; b <= view.topB(); b++) {
                     for (int c = 0; c <= view.topC(); c++) {
@@ -993,9 +1000,10 @@ public final class PrimaryParts {
         }
 
         private void add(int set, int degree) {
-            int x = set * DEGREES + degree;
-            if (x >= 0 && x < tally.length) {
-                tally[x]++;
+            if (set >= 0 && set < SETS && degree >= 0 && degree < DEGREES) {
+                tally[set * DEGREES + degree]++;
+                totals[set]++;
+                total++;
             }
         }
 
@@ -1018,19 +1026,11 @@ public final class PrimaryParts {
         }
 
         int total() {
-            int sum = 0;
-            for (int set = 0; set < SETS; set++) {
-                sum += totalOf(set);
-            }
-            return sum;
+            return total;
         }
 
         int totalOf(int set) {
-            int sum = 0;
-            for (int degree = 0; degree < DEGREES; degree++) {
-                sum += tallied(set, degree);
-            }
-            return sum;
+            return set >= 0 && set < SETS ? totals[set] : 0;
         }
 
         private int tallied(int set, int degree) {
