@@ -88,7 +88,11 @@ public final class PrimaryParts {
         if (mistake != 0) {
             return -10 - mistake;
         }
-        return settle(place, reader.read(checker, places));
+        reader.begin(places[place]);
+        for (int k = 0; k < checker.size(); k++) {
+            reader.take(checker.token(k), places);
+        }
+        return settle(place, reader.end());
     }
 
     public int fault() {
@@ -1199,7 +1203,7 @@ public final class PrimaryParts {
     /** Makes ideals of ideals; those that are refused have a size below 0 and stay refused. */
     private static final class Maker {
         /** Far above what a saturation needs: each quotient but the last takes a monomial more in. */
-        private static final int MOST_QUOTIENTS = 100000;
+        private static final int MOST_QUOTIENTS = 1000;
 
         private final Stairs view;
         private final Stairs work;
@@ -1680,15 +1684,24 @@ public final class PrimaryParts {
         }
     }
 
-    /** Works out a text that has been found without fault. */
+    /** Works out a text that has been found without fault, token by token. */
     private static final class Reader {
-        private static final int DEEPEST = 7;
+        private static final int DEEPEST = 6;
 
         private final Maker maker;
+        /** Of each expression that is open: what stands ahead of its latest sign (null: nothing), and the sign. */
         private final Ideal[] lefts;
         private final int[] signs;
+        /** Whether an 'r' was opened there, and no bracket. */
         private final boolean[] roots;
-        private int at;
+        private int depth;
+        private Ideal value;
+        private boolean inList;
+        /** The monomial that is being read; whether it has begun; its latest letter. */
+        private int monomial;
+        private boolean begun;
+        private int letter;
+        private boolean powerComes;
 
         Reader(Maker maker) {
             this.maker = maker;
@@ -1697,41 +1710,69 @@ public final class PrimaryParts {
             roots = new boolean[DEEPEST + 1];
         }
 
-        /** Stops at the first ideal that is refused, as that one tells which it is. */
-        Ideal read(Checker text, Ideal[] places) {
-            Ideal value = places[0];
-            int depth = 0;
+        /** Any ideal that was not refused will do: the first base takes its stead. */
+        void begin(Ideal any) {
+            value = any;
+            depth = 0;
             lefts[0] = null;
-            for (at = 0; at < text.size() && value.size >= 0; at++) {
-                int token = text.token(at);
-                boolean ends = false;
-                if (token == '[' || token == 'r') {
-                    depth = Math.min(depth + 1, DEEPEST);
-                    lefts[depth] = null;
-                    roots[depth] = token == 'r';
-                } else if (token == '(') {
-                    value = list(text);
-                    ends = true;
-                } else if (token == '#') {
-                    at++;
-                    value = places[(text.token(at) - Checker.NUMBER) & 7];
-                    ends = true;
-                } else if (token == '^') {
-                    at++;
-                    value = maker.powerOf(value, text.token(at) - Checker.NUMBER);
-                } else {
-                    value = maker.combine(signs[depth], lefts[depth], value);
-                    lefts[depth] = value;
-                    signs[depth] = signOf(token);
-                    ends = token == ']';
-                    depth = ends && depth > 0 ? depth - 1 : depth;
-                }
-                while (ends && depth > 0 && roots[depth]) {
-                    value = value.size < 0 ? value : maker.radicalOf(value);
-                    depth--;
-                }
-            }
+            roots[0] = false;
+            inList = false;
+        }
+
+        Ideal end() {
             return value.size < 0 ? value : maker.combine(signs[0], lefts[0], value);
+        }
+
+        /** Nothing is taken behind the first ideal that is refused, as that one tells which it is. */
+        void take(int token, Ideal[] places) {
+            if (value.size < 0) {
+                return;
+            }
+            boolean ends = false;
+            if (inList) {
+                ends = takeListed(token);
+            } else if (token >= Checker.NUMBER) {
+                ends = takeNumber(token - Checker.NUMBER, places);
+            } else if (token == '(') {
+                openList();
+            } else if (token == '[' || token == 'r') {
+                open(token == 'r');
+            } else if (token == '#' || token == '^') {
+                powerComes = token == '^';
+            } else {
+                value = maker.combine(signs[depth], lefts[depth], value);
+                lefts[depth] = value;
+                signs[depth] = signOf(token);
+                ends = token == ']' && depth > 0;
+                depth = ends ? depth - 1 : depth;
+            }
+            if (ends) {
+                endBase();
+            }
+        }
+
+        private void open(boolean isRoot) {
+            depth = Math.min(depth + 1, DEEPEST);
+            lefts[depth] = null;
+            roots[depth] = isRoot;
+        }
+
+        /** Each 'r' that waited for this base has it now. */
+        private void endBase() {
+            while (depth > 0 && roots[depth] && value.size >= 0) {
+                value = maker.radicalOf(value);
+                depth--;
+            }
+        }
+
+        /** Whether a base ends by it. */
+        private boolean takeNumber(int number, Ideal[] places) {
+            if (powerComes) {
+                value = maker.powerOf(value, number);
+                return false;
+            }
+            value = number >= 0 && number < places.length ? places[number] : value;
+            return true;
         }
 
         private static int signOf(int token) {
@@ -1749,30 +1790,42 @@ public final class PrimaryParts {
             }
         }
 
-        /** From the parenthesis at which the text stands to the one that closes it. */
-        private Ideal list(Checker text) {
+        private void openList() {
             maker.clear();
-            for (at = at + 1; at < text.size() && text.token(at) != ')'; at++) {
-                if (text.token(at) != ',') {
-                    maker.put(monomial(text));
-                }
-            }
-            return maker.least();
+            inList = true;
+            nextMonomial();
         }
 
-        /** Goes on to the monomial's last token; 1 has no letters. */
-        private int monomial(Checker text) {
-            int m = Monomial.ONE;
-            int k = at;
-            while (k < text.size() && Checker.isLetter(text.token(k))) {
-                int follows = text.token(k + 1);
-                boolean isTold = follows >= Checker.NUMBER;
-                int exponent = isTold ? follows - Checker.NUMBER : 1;
-                m = Monomial.times(m, Monomial.power(text.token(k) - 'a', exponent));
-                k += isTold ? 2 : 1;
+        private void nextMonomial() {
+            monomial = Monomial.ONE;
+            begun = false;
+            letter = NONE;
+        }
+
+        /** Whether the list ends by it. */
+        private boolean takeListed(int token) {
+            if (token == ',' || token == ')') {
+                endMonomial();
+                inList = token == ',';
+                value = inList ? value : maker.least();
+                return !inList;
             }
-            at = Math.max(at, k - 1);
-            return m;
+            begun = true;
+            if (token < Checker.NUMBER) {
+                letter = token - 'a';
+                monomial = Monomial.times(monomial, Monomial.power(letter, 1));
+            } else if (letter != NONE) {
+                // the letter itself has told the first one
+                monomial = Monomial.times(monomial, Monomial.power(letter, token - Checker.NUMBER - 1));
+            }
+            return false;
+        }
+
+        private void endMonomial() {
+            if (begun) {
+                maker.put(monomial);
+            }
+            nextMonomial();
         }
     }
 
