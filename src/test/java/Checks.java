@@ -5,11 +5,18 @@ final class Checks {
     }
 
     private final String name;
+    private String sentence = "";
     private int done;
     private int wrong;
 
     Checks(String name) {
         this.name = name;
+    }
+
+    /** The next checks go by this sentence, which must stand in the document under that heading. */
+    void by(String heading, String words) {
+        sentence = " [" + words + "]";
+        same("the document says so under " + heading, true, Document.says(heading, words));
     }
 
     /** An exception is told as throws.ItsName. */
@@ -32,7 +39,7 @@ final class Checks {
         }
         wrong++;
         if (wrong <= 50) {
-            System.out.println(name + ": " + what + " answered " + got + ", due is " + want);
+            System.out.println(name + ": " + what + " answered " + got + ", due is " + want + sentence);
         }
         return false;
     }
