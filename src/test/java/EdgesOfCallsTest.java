@@ -41,6 +41,7 @@ public final class EdgesOfCallsTest extends Edges {
         promise22();
         promise23();
         promise24();
+        allCalls();
         for (int number = 1; number <= 24; number++) {
             String heading = Document.promise(number);
             checks.same(heading + " has a test", true, Document.isQuoted(heading));
@@ -347,6 +348,11 @@ public final class EdgesOfCallsTest extends Edges {
             counted(texts[k], 8, own[k]);
             counted(texts[k], 9, primary[k]);
             counted(texts[k], 10, irreducible[k]);
+        }
+        for (String letter : LETTERS.split("")) {
+            counted("(" + letter + ")", 8, 1);
+            counted("(" + letter + "2)", 8, 0);
+            counted("(abcd," + letter + "12)", 8, 0);
         }
         by(7, "11 the greatest DEGREE of a GENERATOR (NONE: EMPTY)");
         counted("()", 11, NONE);
@@ -792,5 +798,26 @@ public final class EdgesOfCallsTest extends Edges {
             still("byte " + i, NONE, y -> y.said(i));
         }
         still("byte 8", (int) ')', y -> y.said(8));
+    }
+
+    /** Acts, texts that are refused and questions in turn: the last of 512 answers as the first ones do. */
+    private static void allCalls() {
+        checks.by("What it is", "An object is used for at most 512 calls after it has been made");
+        PrimaryParts x = new PrimaryParts();
+        int[] row = Checks.packed("(a2,ab)^2");
+        int calls = 0;
+        while (calls + 8 <= 512) {
+            int n = calls / 8;
+            due("feed, call " + calls, 20, () -> x.feed(row[0], row[1], row[2], row[3], row[4]));
+            due("tell, behind call " + calls, n % 2 == 0 ? 3 : -11, () -> x.tell(n % 8, n % 2 == 0 ? 9 : 8));
+            due("fault, behind call " + calls, n % 2 == 0 ? NONE : 8, x::fault);
+            due("make, behind call " + calls, 1, () -> x.make(7, 12, n / 2 * 2 % 8, 0));
+            due("steady, behind call " + calls, 2, () -> x.steady(n / 2 * 2 % 8));
+            due("image, behind call " + calls, Math.min(5, n / 2 + 2), x::image);
+            due("back, behind call " + calls, true, x::back);
+            due("say, behind call " + calls, 4, () -> x.say(7));
+            calls += 8;
+        }
+        checks.same("calls", 512, calls);
     }
 }

@@ -259,10 +259,12 @@ public final class EdgesOfIdealsTest extends Edges {
         String x = "(a2,ab)";
         by("SUM: what is in I or J.");
         signs(0, "()", "(1)", x, "(1)", "(1)", "(1)", x, "(1)", x);
+        twelves(0);
         by("PRODUCT: what some MONOMIAL of I times some of J (EXPONENTS together) DIVIDES.");
         signs(1, "()", "()", "()", "()", "(1)", x, "()", x, "(a4,a3b,a2b2)");
         by("MEET: what is in both.");
         signs(2, "()", "()", "()", "()", "(1)", x, "()", x, x);
+        twelves(2);
         by("QUOTIENT: the MONOMIALS of which all PRODUCTS with MONOMIALS of J are in I (WHOLE, if J is EMPTY).");
         signs(3, "(1)", "()", "()", "(1)", "(1)", "(1)", "(1)", x, "(1)");
         by("SATURATION: QUOTIENT by J, again and again until it stays.");
@@ -274,9 +276,32 @@ public final class EdgesOfIdealsTest extends Edges {
         told("r()", "()");
         told("r(1)", "(1)");
         told("r(a12,b11c2)", "(a,bc)");
+        told("r[(a2)&(b2)]", "(ab)");
+        told("r()&(a)", "()");
+        told("(a)&r()+(b)", "(b)");
+        for (int v = 0; v < 4; v++) {
+            String letter = LETTERS.substring(v, v + 1);
+            told("r(" + letter + "12)", "(" + letter + ")");
+            told("r(" + letter + ")", "(" + letter + ")");
+            makesBy("(" + letter + "2)", 5, 0, "(" + letter + ")");
+        }
         makesBy("()", 5, 0, "()");
         makesBy("(1)", 5, 0, "(1)");
         makesBy("(a12,b11c2)", 5, 0, "(a,bc)");
+    }
+
+    /** SUM and MEET of two powers, whichever variables they have. */
+    private static void twelves(int how) {
+        for (int k = 0; k < 16; k++) {
+            if (k / 4 == k % 4) {
+                continue;
+            }
+            String x = LETTERS.charAt(k / 4) + "11";
+            String y = LETTERS.charAt(k % 4) + "12";
+            String both = k / 4 < k % 4 ? x + y : y + x;
+            makes("(" + x + ")", "(" + y + ")", how, how == 0 ? "(" + x + "," + y + ")" : "(" + both + ")");
+            makes("(" + y + ")", "(" + x + ")", how, how == 0 ? "(" + x + "," + y + ")" : "(" + both + ")");
+        }
     }
 
     /** What EMPTY, WHOLE and (a2,ab) give with each of these, in texts and in calls. */

@@ -1,5 +1,6 @@
 import java.util.ArrayList;
 import java.util.List;
+import java.util.function.IntUnaryOperator;
 
 /** Each sentence of ==== 3. that names a boundary: what is answered at it and on either side of it. */
 public final class EdgesOfPartsTest extends Edges {
@@ -14,6 +15,7 @@ public final class EdgesOfPartsTest extends Edges {
         actsAround();
         steady();
         witnessesAndProofs();
+        embeddedOfEachTwo();
         pairs();
         heights();
         outside();
@@ -296,6 +298,47 @@ public final class EdgesOfPartsTest extends Edges {
         due("proof of (b)", 1, () -> y.proof(1, 1, 0));
     }
 
+    /** The same ideal, of a MINIMAL PART (x) and an EMBEDDED one (x3,y), whichever variables x and y are. */
+    private static void embeddedOfEachTwo() {
+        by("those that an IRREDUCIBLE ONE is made of");
+        for (int k = 0; k < 16; k++) {
+            int x = k / 4;
+            int y = k % 4;
+            if (x == y) {
+                continue;
+            }
+            int both = 1 << x | 1 << y;
+            String first = LETTERS.substring(x, x + 1);
+            String text = "(" + first + "3," + first + LETTERS.charAt(y) + ")";
+            part(text, 0, 1 << x, 0, 1, 1, 1);
+            part(text, 1, both, 1, 1, 2, 2);
+            PrimaryParts z = with(text);
+            monomial("witness 0 of " + text, v -> z.witness(0, 0, v), y, 1);
+            monomial("witness 1 of " + text, v -> z.witness(0, 1, v), x, 2);
+            monomial("proof 0 of " + text, v -> z.proof(0, 0, v), y, 1);
+            monomial("proof 1 of " + text, v -> z.proof(0, 1, v), x, 1);
+            monomial("irreducible 0 of " + text, v -> z.irreducible(0, 0, v), x, 1);
+            due("irreducible 1 of " + text, 3, () -> z.irreducible(0, 1, x));
+            due("irreducible 1 of " + text, 1, () -> z.irreducible(0, 1, y));
+            due("pairs of " + text, 3, () -> z.count(0, 6));
+            monomial("pair 0 of " + text, v -> z.pair(0, 0, v), x, 1);
+            monomial("pair 1 of " + text, v -> z.pair(0, 1, v), x, 2);
+            monomial("pair 2 of " + text, v -> z.pair(0, 2, v), x, 0);
+            due("set 0 of " + text, 15 ^ both, () -> z.pair(0, 0, -1));
+            due("set 2 of " + text, 15 ^ 1 << x, () -> z.pair(0, 2, -1));
+            makesBy(text, 12, 0, "(" + first + ")");
+            makesBy(text, 10, 1 << y, "(" + first + ")");
+        }
+    }
+
+    /** A power of one variable alone. */
+    private static void monomial(String what, IntUnaryOperator exponent, int variable, int power) {
+        for (int v = 0; v < 4; v++) {
+            int each = v;
+            due(what + ", variable " + v, v == variable ? power : 0, () -> exponent.applyAsInt(each));
+        }
+    }
+
     private static void pair(PrimaryParts x, int place, int i, int... want) {
         for (int v = -1; v < 4; v++) {
             int variable = v;
@@ -383,5 +426,10 @@ public final class EdgesOfPartsTest extends Edges {
         dual("(a,b,c,d)", 12, 12, 12, 12, "(a12b12c12d12)");
         dual("(a,b,c,d)", 1, 1, 1, 1, "(abcd)");
         dual("(a,b,c,d)", 1, 1, 1, 0, "NONE");
+        dual("(a,b,c,d)", 1, 2, 3, 12, "(ab2c3d12)");
+        dual("(a,b,c,d)", 12, 1, 2, 3, "(a12bc2d3)");
+        dual("(a,b,c,d)", 3, 12, 1, 2, "(a3b12cd2)");
+        dual("(a,b,c,d)", 2, 3, 12, 1, "(a2b3c12d)");
+        dual("(ab,cd)", 1, 2, 3, 4, "(ac3,ad4,b2c3,b2d4)");
     }
 }

@@ -8,6 +8,7 @@ public final class EdgesOfTextsTest extends Edges {
         numbers();
         limitsOfNumbers();
         ends();
+        textsInTurn();
         firstOfTheList();
         firstToken();
         letters();
@@ -149,6 +150,46 @@ public final class EdgesOfTextsTest extends Edges {
         Checks.feed(x, "(a)+(b)");
         due("the text ends at n, not where the tape ends", -11, () -> x.tell(0, 4));
         due("its length is n", 4, x::fault);
+        Checks.feed(x, "(a)^12+(b)");
+        due("a NUMBER ends at n, though figures stand behind", 1, () -> x.tell(0, 5));
+        due("it is 1", "(a)", () -> Checks.spoken(x, 0));
+        Checks.feed(x, "(a13)");
+        due("a NUMBER that would be too great", -11, () -> x.tell(0, 3));
+        due("the end comes ahead of it", 3, x::fault);
+    }
+
+    /** What one text has left open must not be seen by the next. */
+    private static void textsInTurn() {
+        by("A TEXT of at most 200 bytes.");
+        String[] broken = {
+            "[[[[[[", "rrrrrr", "[r[r[r(a", "[[[[[[(a)", "(a", "(", "(a,", "(a)^", "#", "[[[[[[[",
+            "(" + "a,".repeat(24) + "a",
+        };
+        String[] refused = {
+            "[[[[[[(a7)^2]]]]]]", "rrrrr[(a7)^2]", "[(b)+[(c)*(a7)^2*(d)]]", "[[(a,b,c,d)^6]]*(a)",
+            "(b)*[(a12)*(a)]+(c)",
+        };
+        for (int k = 0; k < broken.length + refused.length; k++) {
+            boolean isBroken = k < broken.length;
+            String text = isBroken ? broken[k] : refused[k - broken.length];
+            PrimaryParts x = with("(a2,ab)");
+            due("tell " + text, true, () -> Checks.tell(x, 1, text) < -1);
+            due("then a base", 1, () -> Checks.tell(x, 1, "(d)"));
+            due("what is told", "(d)", () -> Checks.spoken(x, 1));
+            Checks.tell(x, 2, text);
+            due("then brackets", 1, () -> Checks.tell(x, 1, "[[[[[[(c)]]]]]]"));
+            due("what is told", "(c)", () -> Checks.spoken(x, 1));
+            Checks.tell(x, 2, text);
+            due("then roots", 1, () -> Checks.tell(x, 1, "rrrrrr(b2)&rrrrrr(c2)"));
+            due("what is told", "(bc)", () -> Checks.spoken(x, 1));
+            Checks.tell(x, 2, text);
+            due("then a bracket that wasn't opened", -11, () -> Checks.tell(x, 1, "(c)]"));
+            due("its place", 3, x::fault);
+            Checks.tell(x, 2, text);
+            due("then 24 of them", 1, () -> Checks.tell(x, 1, "(a" + ",a".repeat(23) + ")"));
+            due("nothing else has changed", "(a2,ab)", () -> Checks.spoken(x, 0));
+            due("nothing is made by it", 0, () -> x.count(2, 0));
+        }
     }
 
     private static void firstOfTheList() {
